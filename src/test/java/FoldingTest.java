@@ -175,6 +175,16 @@ public final class FoldingTest {
         valueDue("18: four are junk", log, 0, 10, 7);
         valueDue("18: another stream", log, 1, 10, 22);
 
+        SharedLog next = new SharedLog();
+        Logs.append(next, 1, 1);
+        Logs.append(next, 1, 2);
+        for (int position = 2; position < 6; position++) {
+            Logs.junk(next, 1);
+        }
+        Logs.append(next, 1, 4);
+        CHECKS.due("18: the lowest pointer", 2, () -> next.pointer(6, 0, 3));
+        valueDue("18: the entry is right ahead of the lowest pointer", next, 0, 7, 7);
+
         SharedLog nothing = new SharedLog();
         for (int position = 0; position < 4; position++) {
             Logs.junk(nothing, 1);
