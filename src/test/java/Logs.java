@@ -28,11 +28,7 @@ final class Logs {
 
     /** A log with all 120 positions handed out and none written. */
     static SharedLog handedOut() {
-        SharedLog log = new SharedLog();
-        for (int position = 0; position < 120; position++) {
-            log.take(1, 1);
-        }
-        return log;
+        return withTail(120);
     }
 
     /** A log with all 150 tokens handed out: the last 75 have the positions 0 to 74 again. */
@@ -43,6 +39,45 @@ final class Logs {
                 log.seal();
             }
             log.take(1, 1);
+        }
+        return log;
+    }
+
+    /** A log at the position 120 and with all 150 tokens at once: the last 120 begin at the position 0 again. */
+    static SharedLog fullWithAllTokens() {
+        SharedLog log = new SharedLog();
+        for (int token = 0; token < 150; token++) {
+            if (token == 30) {
+                log.seal();
+            }
+            log.take(1, 1);
+        }
+        return log;
+    }
+
+    /** A log with a tail, each entry ahead of it being of the stream 0 and not written. */
+    static SharedLog withTail(int tail) {
+        SharedLog log = new SharedLog();
+        for (int position = 0; position < tail; position++) {
+            log.take(1, 1);
+        }
+        return log;
+    }
+
+    /** The same without a sequencer. */
+    static SharedLog lostAt(int tail) {
+        SharedLog log = withTail(tail);
+        log.lose();
+        return log;
+    }
+
+    /** A full log whose entries of the amount are all written and known. */
+    static SharedLog allKnown(int streams, int amount) {
+        SharedLog log = new SharedLog();
+        for (int position = 0; position < 120; position++) {
+            int token = log.take(streams, amount);
+            log.write(token);
+            log.fill(position);
         }
         return log;
     }
